@@ -3,6 +3,9 @@ import java.util.Arrays;
 
 /** A press for raised writing. The document's promises tell what each call does. */
 public final class DotPress {
+  /** KINDS of a TABLE. */
+  private static final int PLAIN = 0;
+  private static final int CONTRACTED = 1;
   private static final int NUMERIC = 2;
   private static final int SHORT = 3;
   private static final int MUSIC = 4;
@@ -119,39 +122,29 @@ public final class DotPress {
     if (kind < 0 || kind > MUSIC || (dots != 6 && dots != 8) || tables.isFull()) {
       return refuse(NOT_AS_TOLD);
     }
-    boolean isUnder = kind >= 1 && kind <= SHORT;
-    Table under = isUnder ? tables.alive(base) : null;
-    if (isUnder && under == null) {
-      return refuse(NO_TABLE);
+    if (kind == PLAIN || kind == MUSIC) {
+      return done(tables.make(new Table(kind, dots, null, null)));
     }
-    if (isUnder && under.kind > SHORT) {
-      return refuse(OTHER_KIND);
+    Table under = tables.alive(base);
+    if (under == null || under.kind > SHORT) {
+      return refuse(under == null ? NO_TABLE : OTHER_KIND);
     }
     return done(tables.make(new Table(kind, dots, under, null)));
   }
 
   public int join(int first, int second) {
-    int why = whyNotJoined(first);
-    if (why == FINE) {
-      why = whyNotJoined(second);
-    }
-    if (why != FINE) {
-      return refuse(why);
-    }
     Table one = tables.alive(first);
+    if (one == null || one.kind > SHORT) {
+      return refuse(one == null ? NO_TABLE : OTHER_KIND);
+    }
     Table other = tables.alive(second);
-    if (one == null || other == null || tables.isFull()) {
+    if (other == null || other.kind > SHORT) {
+      return refuse(other == null ? NO_TABLE : OTHER_KIND);
+    }
+    if (tables.isFull()) {
       return refuse(NOT_AS_TOLD);
     }
     return done(tables.make(new Table(JOINED, Math.max(one.dots, other.dots), one, other)));
-  }
-
-  private int whyNotJoined(int t) {
-    Table part = tables.alive(t);
-    if (part == null) {
-      return NO_TABLE;
-    }
-    return part.kind > SHORT ? OTHER_KIND : FINE;
   }
 
   public int drop(int t) {
@@ -537,7 +530,8 @@ public final class DotPress {
     if (d < 0 || d > 7) {
       return refuse(NOT_AS_TOLD);
     }
-    failedDots = is ? failedDots | 1 << d : failedDots & ~(1 << d);
+    int dot = 1 << d;
+    failedDots = is ? failedDots | dot : failedDots & ~dot;
     return done(Integer.bitCount(failedDots));
   }
 
@@ -648,31 +642,26 @@ public final class DotPress {
     if (one == null || other == null) {
       return refuse(NO_TABLE);
     }
-    int cells = cellsOfText(one);
-    int otherCells = cells < 0 ? cells : cellsOfText(other);
-    if (otherCells < 0) {
-      refuseAt(-otherCells, word.placeOfUnknown());
+    int cells = 0;
+    int why = FINE;
+    for (int pass = 0; why == FINE && pass < 2; pass++) {
+      source.restart();
+      int comes = source.step(written, word);
+      for (int n = 0; why == FINE && comes != TEXT_ENDS && n < NEVER_REACHED; n++) {
+        if (comes == WORD_READY) {
+          why = word.setBy(pass == 0 ? one : other);
+          cells += pass == 0 ? word.count : -word.count;
+        }
+        if (why == FINE) {
+          comes = source.step(written, word);
+        }
+      }
+    }
+    if (why != FINE) {
+      refuseAt(why, word.placeOfUnknown());
       return 0;
     }
-    return done(cells - otherCells);
-  }
-
-  /** How many CELLS the WORDS of TEXT have; below 0: the STATUS, negative. */
-  private int cellsOfText(Table table) {
-    source.restart();
-    int cells = 0;
-    for (int steps = 0; steps < NEVER_REACHED; steps++) {
-      int comes = source.step(written, word);
-      if (comes == TEXT_ENDS) {
-        return cells;
-      }
-      int why = comes == WORD_READY ? word.setBy(table) : FINE;
-      if (why != FINE) {
-        return -why;
-      }
-      cells += comes == WORD_READY ? word.count : 0;
-    }
-    return cells;
+    return done(cells);
   }
 
   // ---- STATUS
@@ -1102,8 +1091,7 @@ public final class DotPress {
           unknown = at;
           return UNKNOWN;
         }
-        Arrays.fill(starts, at, at + rule.letters.length, -1);
-        starts[at] = count;
+        markStart(at, rule.letters.length);
         push(ahead);
         push(rule);
         if (count > MOST_CELLS) {
@@ -1112,6 +1100,12 @@ public final class DotPress {
         at += rule.letters.length;
       }
       return FINE;
+    }
+
+    private void markStart(int at, int n) {
+      for (int i = at; i < at + n && i < MOST_TEXT; i++) {
+        starts[i] = i == at ? count : -1;
+      }
     }
 
     private Row numberAhead(Table table, int at) {
@@ -1138,34 +1132,39 @@ public final class DotPress {
       Row best = null;
       int here = b;
       for (Table t = table; t != null; t = t.base) {
-        finds[t.kind]++;
-        if (t.kind == 0 || t.kind == MUSIC) {
+        countFind(t.kind);
+        if (t.kind == PLAIN || t.kind == MUSIC) {
           return findOwn(t, at, here, best);
         }
-        if (t.kind == NUMERIC) {
-          if (isDigit(here)) {
-            finds[0]++;
-            return findOwn(t, at, here, best);
-          }
+        if (t.kind == NUMERIC && !isDigit(here)) {
           continue;
         }
         if (t.kind == SHORT) {
+          countFind(CONTRACTED);
           here = isGreat(here) ? here + TO_SMALL : here;
-          finds[1]++;
         }
-        finds[0]++;
+        countFind(PLAIN);
         best = findOwn(t, at, here, best);
+        if (t.kind == NUMERIC) {
+          return best;
+        }
       }
       return best;
+    }
+
+    private void countFind(int kind) {
+      if (kind >= 0 && kind < finds.length) {
+        finds[kind]++;
+      }
     }
 
     /** The first of the longest RULES that FIT, if it is longer than the best so far. */
     private Row findOwn(Table table, int at, int b, Row bestSoFar) {
       Row best = bestSoFar;
       int longest = best == null ? 0 : best.letters.length;
-      ArrayList<Row> rules = table.rules;
-      for (int i = 0; i < rules.size(); i++) {
-        Row rule = rules.get(i);
+      int n = table.rules.size();
+      for (int i = 0; i < n; i++) {
+        Row rule = table.rules.get(i);
         if (rule.letters.length > longest && rule.letters[0] == b && fits(rule, at)) {
           best = rule;
           longest = rule.letters.length;
@@ -1277,7 +1276,9 @@ public final class DotPress {
     }
 
     void gatherAlphabet(Reader rows, boolean isJoined) {
-      Arrays.fill(isSpelt, false);
+      for (int b = 0; b <= LAST_LETTER; b++) {
+        isSpelt[b] = false;
+      }
       markLetters(rows.first);
       markLetters(rows.second);
       if (isJoined) {
@@ -1369,18 +1370,20 @@ public final class DotPress {
     }
 
     void resize(int n) {
-      if (n > size) {
-        Arrays.fill(cells, size, n, 0);
+      size = Math.min(size, n);
+      for (int i = size; i < n; i++) {
+        add(0);
       }
-      size = n;
     }
 
     void indent(int n) {
-      if (n <= 0 || size == 0 || size + n > MOST_CELLS) {
+      if (n <= 0 || size == 0 || n > MOST_CELLS - size) {
         return;
       }
       System.arraycopy(cells, 0, cells, n, size);
-      Arrays.fill(cells, 0, n, 0);
+      for (int i = 0; i < n; i++) {
+        cells[i] = 0;
+      }
       size += n;
     }
 
@@ -1549,12 +1552,13 @@ public final class DotPress {
     }
 
     static boolean isReadable(ArrayList<Row> rows, int hyphen) {
-      for (int i = 0; i < rows.size(); i++) {
+      int n = rows.size();
+      for (int i = 0; i < n; i++) {
         Row row = rows.get(i);
         if (row.endsWith(hyphen)) {
           return false;
         }
-        for (int k = 0; k < rows.size(); k++) {
+        for (int k = 0; k < n; k++) {
           if (k != i && row.isAtBeginOf(rows.get(k))) {
             return false;
           }
@@ -1634,7 +1638,8 @@ public final class DotPress {
     private Row longestAt(ArrayList<Row> rows, int at) {
       Row best = null;
       int longest = 0;
-      for (int i = 0; i < rows.size(); i++) {
+      int n = rows.size();
+      for (int i = 0; i < n; i++) {
         Row row = rows.get(i);
         if (row.cells.length > longest && row.standsAt(cells, at)) {
           best = row;
