@@ -1246,14 +1246,12 @@ public final class DotPress {
       word.clear();
       for (; at < text.size && text.at(at) != NEWLINE; at++) {
         int b = text.at(at);
-        if (b == SPACE) {
-          if (word.size > 0) {
-            return WORD_READY;
-          }
-          word.clear();
-        } else if (b == SOFT_BREAK) {
+        if (b == SPACE && word.size > 0) {
+          return WORD_READY;
+        }
+        if (b == SOFT_BREAK) {
           word.putBreak();
-        } else {
+        } else if (b != SPACE) {
           word.put(b, at);
         }
       }

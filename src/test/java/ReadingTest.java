@@ -141,6 +141,9 @@ public final class ReadingTest {
     DotPress x = press();
     x.table(2, 8, 0);
     Check.rule(x, 1, 0, "1", 1, 1);
+    Check.rule(x, 1, 0, "z", 20);
+    Check.rule(x, 1, 0, "{", 21);
+    Check.rule(x, 1, 0, "`", 22);
     Check.indicator(x, 1, 0, 7);
     Check.indicator(x, 1, 1, 8, 8);
     lay(x, new int[] {7, 1, 2, 8, 8, 1, 1, 0, 8, 8, 0, 7, 5});
@@ -156,6 +159,10 @@ public final class ReadingTest {
     Check.rule(x, 1, 0, "abba", 10);
     lay(x, new int[] {7, 10, 10});
     reads(x, 1, 0, 1, "Abbaabba");
+    lay(x, new int[] {7, 20}, new int[] {7, 21}, new int[] {7, 22});
+    reads(x, 1, 0, 1, "Z");
+    wrong(x, 1, 1, 1, 1001);
+    wrong(x, 1, 2, 1, 2001);
   }
 
   private void readJoined() {
@@ -654,6 +661,17 @@ public final class ReadingTest {
     c.done(x, "in two LETTERS none", x.unreadable(1, 2, 20), 0);
     c.refused(x, "4 and 16 WORDS", x.unreadable(1, 2, 19), 8);
     c.due("place()", x.place(), -1);
+    // ! and } are the first and the last LETTER, and z has a great one
+    x.table(0, 8, 0);
+    Check.rule(x, 2, 0, "!", 1);
+    Check.rule(x, 2, 0, "}", 2);
+    Check.rule(x, 2, 0, "z{", 3);
+    c.refused(x, "! Z z { }", x.unreadable(2, 1, 4), 8);
+    c.done(x, "none", x.unreadable(2, 1, 5), 0);
+    Check.rule(x, 2, 0, "}}", 1);
+    c.done(x, "the last of all", x.unreadable(2, 2, 30), 2);
+    c.same("READ", Check.bytesRead(x), "}}");
+    c.done(x, "LETTERS of another TABLE are not tried", x.unreadable(0, 1, 3), 0);
   }
 
   private void unreadableJoined() {

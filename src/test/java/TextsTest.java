@@ -11,6 +11,7 @@ public final class TextsTest {
     test.setFinds();
     test.setCapitals();
     test.setNumbers();
+    test.setEdges();
     test.setShort();
     test.setMusic();
     test.setJoined();
@@ -75,6 +76,8 @@ public final class TextsTest {
       Check.tape(x, "a", b);
       c.refused(x, "byte " + b, x.text(), 6);
       c.due("the TAPE is empty", x.end(1), -1);
+      Check.tape(x, "", b, 'a');
+      c.refused(x, "byte " + b + " at first", x.text(), 6);
     }
     Check.tape(x, "a".repeat(490));
     c.done(x, "500 bytes", x.text(), 500);
@@ -208,6 +211,27 @@ public final class TextsTest {
     laid(x, 1, "b12", "12 22");
     Check.indicator(x, 1, 0, 50);
     laid(x, 1, "A2", "50 1 60 61 22");
+  }
+
+  private void setEdges() {
+    c.promise(13, "the first and last of digits, great and small ones");
+    DotPress x = new DotPress();
+    Check.plain(x, "az/:@[`{");
+    Check.indicator(x, 0, 0, 50);
+    x.table(2, 8, 0);
+    Check.rule(x, 1, 0, "0", 10);
+    Check.rule(x, 1, 0, "9", 19);
+    Check.rule(x, 1, 0, "/", 99);
+    Check.indicator(x, 1, 1, 60);
+    laid(x, 1, "09 90a0 9", "60 10 19 0 60 19 10 1 60 10 0 60 19");
+    laid(x, 1, "/:0", "3 4 60 10");
+    laid(x, 0, "AZ@[`{az", "50 1 50 2 5 6 7 8 1 2");
+    x.table(3, 8, 0);
+    laid(x, 2, "AZ@[", "1 2 5 6");
+    // beside a digit it is not broken, beside others it is
+    x.measure(3, 25, 36);
+    laid(x, 1, "a0~aa a9~aa", "1 60 10 1 1", "1 60 19 1 1");
+    laid(x, 1, "a/~aa a:~aa", "1 3 36", "1 1", "1 4 36", "1 1");
   }
 
   private void setShort() {
