@@ -181,7 +181,7 @@ public final class DotPress {
     }
     Row rule = new Row(RULE, tape.slice(0, m), tape.slice(m, tape.size));
     rule.condition = condition;
-    table.rules.add(rule);
+    table.append(rule);
     tables.remember(new Change(Change.RULED, table, rule, 0));
     return done(table.rules.size() - 1);
   }
@@ -841,6 +841,8 @@ public final class DotPress {
     final Table base;
     final Table second;
     final ArrayList<Row> rules = new ArrayList<Row>();
+    /** The first LETTER of each RULE: most RULES are passed by it alone. */
+    final Ints initials = new Ints(MOST_RULES);
     final Row[] indicators = new Row[4];
     boolean dropped = false;
 
@@ -849,6 +851,18 @@ public final class DotPress {
       this.dots = dots;
       this.base = base;
       this.second = second;
+    }
+
+    void append(Row rule) {
+      rules.add(rule);
+      initials.add(rule.letters.length > 0 ? rule.letters[0] : 0);
+    }
+
+    void removeLast() {
+      if (!rules.isEmpty()) {
+        rules.remove(rules.size() - 1);
+        initials.keep(rules.size());
+      }
     }
 
     boolean mayHave(int which) {
@@ -958,9 +972,7 @@ public final class DotPress {
           change.table.dropped = false;
           break;
         case Change.RULED:
-          if (!change.table.rules.isEmpty()) {
-            change.table.rules.remove(change.table.rules.size() - 1);
-          }
+          change.table.removeLast();
           break;
         case Change.CONDITIONED:
           change.row.condition = change.number;
@@ -1162,10 +1174,14 @@ public final class DotPress {
     private Row findOwn(Table table, int at, int b, Row bestSoFar) {
       Row best = bestSoFar;
       int longest = best == null ? 0 : best.letters.length;
-      int n = table.rules.size();
+      int n = Math.min(table.initials.size, table.rules.size());
+      int[] initials = table.initials.items;
       for (int i = 0; i < n; i++) {
+        if (initials[i] != b) {
+          continue;
+        }
         Row rule = table.rules.get(i);
-        if (rule.letters.length > longest && rule.letters[0] == b && fits(rule, at)) {
+        if (rule.letters.length > longest && fits(rule, at)) {
           best = rule;
           longest = rule.letters.length;
         }
@@ -1507,6 +1523,9 @@ public final class DotPress {
     final ArrayList<Row> first = new ArrayList<Row>();
     /** ROWS of a SECOND part; none but in a Joined. */
     final ArrayList<Row> second = new ArrayList<Row>();
+    /** The first CELLS of these ROWS: most of them are passed by it alone. */
+    final Ints firstBegins = new Ints(MOST_TABLES * MOST_RULES + 3);
+    final Ints secondBegins = new Ints(MOST_TABLES * MOST_RULES + 3);
     final Ints cells = new Ints(MOST_LINES * (MOST_CELLS + 1));
     final Ints places = new Ints(MOST_LINES * (MOST_CELLS + 1));
     /** One more than READ may have, so that too many are seen. */
@@ -1523,6 +1542,17 @@ public final class DotPress {
         addIndicator(second, table.indicators[BACK]);
       } else {
         gatherPart(first, table);
+      }
+      markBegins(first, firstBegins);
+      markBegins(second, secondBegins);
+    }
+
+    private static void markBegins(ArrayList<Row> rows, Ints begins) {
+      begins.clear();
+      int n = rows.size();
+      for (int i = 0; i < n; i++) {
+        Row row = rows.get(i);
+        begins.add(row.cells.length > 0 ? row.cells[0] : 0);
       }
     }
 
@@ -1616,7 +1646,7 @@ public final class DotPress {
       boolean greatComes = false;
       int at = from;
       while (at < cells.size && cells.at(at) != 0) {
-        Row row = longestAt(rowsOf(inSecond), at);
+        Row row = longestAt(inSecond, at);
         if (row == null || (greatComes && !row.beginsSmall())) {
           wrong = at;
           return -1;
@@ -1633,11 +1663,17 @@ public final class DotPress {
       return greatComes ? -1 : at;
     }
 
-    private Row longestAt(ArrayList<Row> rows, int at) {
+    private Row longestAt(boolean inSecond, int at) {
+      ArrayList<Row> rows = rowsOf(inSecond);
+      Ints begins = inSecond ? secondBegins : firstBegins;
+      int cell = cells.at(at);
       Row best = null;
       int longest = 0;
-      int n = rows.size();
+      int n = Math.min(begins.size, rows.size());
       for (int i = 0; i < n; i++) {
+        if (begins.items[i] != cell) {
+          continue;
+        }
         Row row = rows.get(i);
         if (row.cells.length > longest && row.standsAt(cells, at)) {
           best = row;
