@@ -97,6 +97,45 @@ final class Check {
     return t;
   }
 
+  /**
+   * Makes LINES of these CELLS, and one of BLANKS behind them: by a TABLE that has a LETTER for
+   * each CELL, and is taken back; the BLANKS come in by copying.
+   */
+  static void lay(DotPress x, int[]... lines) {
+    int changes = 1;
+    int t = x.table(0, 8, 0);
+    StringBuilder text = new StringBuilder();
+    for (int[] line : lines) {
+      for (int cell : line) {
+        if (cell != 0) {
+          char letter = (char) ('!' + changes);
+          rule(x, t, 0, String.valueOf(letter), cell);
+          text.append(letter);
+          changes++;
+        }
+      }
+      text.append('\n');
+    }
+    text(x, text.append('\n').toString());
+    x.set(t);
+    for (int l = 0; l < lines.length; l++) {
+      spread(x, l, lines[l], lines.length);
+    }
+    for (int i = 0; i < changes; i++) {
+      x.undo();
+    }
+  }
+
+  private static void spread(DotPress x, int l, int[] cells, int blanks) {
+    int from = x.length(l);
+    x.cut(l, cells.length);
+    x.cut(blanks, 1);
+    for (int i = cells.length - 1; i >= 0; i--) {
+      from -= cells[i] == 0 ? 0 : 1;
+      x.copyRow(cells[i] == 0 ? blanks : l, cells[i] == 0 ? 0 : from, l, i, 1);
+    }
+  }
+
   /** A LINE as a text of its CELLS. */
   static String line(DotPress x, int l) {
     StringBuilder all = new StringBuilder();
@@ -132,6 +171,26 @@ final class Check {
       all.append((char) b);
     }
     return all.toString();
+  }
+
+  /** TEXT, set by a TABLE, gives these LINES. */
+  void laid(DotPress x, int t, String text, String... lines) {
+    text(x, text);
+    done(x, "set of [" + text + "]", x.set(t), lines.length);
+    due("lines()", x.lines(), lines.length);
+    for (int l = 0; l < lines.length; l++) {
+      same("LINE " + l + " of [" + text + "]", line(x, l), lines[l]);
+    }
+  }
+
+  /** TEXT has an UNKNOWN byte at this place. */
+  void unknown(DotPress x, int t, String text, int place) {
+    text(x, text);
+    int lines = x.lines();
+    due("set of [" + text + "]", x.set(t), -1);
+    due("status()", x.status(), 7);
+    due("place() in [" + text + "]", x.place(), place);
+    due("LINES stay", x.lines(), lines);
   }
 
   void same(String what, String got, String want) {

@@ -47,7 +47,7 @@ public final class FuzzTest {
 
   private int call(String name, int... a) {
     calls++;
-    int got = onPress(name, a);
+    int got = Calls.on(press, name, a);
     int want = model.call(name, a);
     story.append(name).append(java.util.Arrays.toString(a)).append(" -> ").append(got);
     if (got != want) {
@@ -259,51 +259,6 @@ public final class FuzzTest {
     call("more");
     for (int i = below(12); i >= 0; i--) {
       call("reading", about(4), about(6));
-    }
-  }
-
-  private int onPress(String name, int[] a) {
-    switch (name) {
-      case "feed": return press.feed(a[0], a[1], a[2], a[3], a[4]);
-      case "end": return press.end(a[0]);
-      case "table": return press.table(a[0], a[1], a[2]);
-      case "join": return press.join(a[0], a[1]);
-      case "drop": return press.drop(a[0]);
-      case "rule": return press.rule(a[0], a[1], a[2]);
-      case "condition": return press.condition(a[0], a[1], a[2]);
-      case "indicator": return press.indicator(a[0], a[1]);
-      case "undo": return press.undo();
-      case "text": return press.text();
-      case "measure": return press.measure(a[0], a[1], a[2]);
-      case "set": return press.set(a[0]);
-      case "head": return press.head(a[0]);
-      case "lines": return press.lines();
-      case "pages": return press.pages();
-      case "length": return press.length(a[0]);
-      case "cell": return press.cell(a[0], a[1]);
-      case "page": return press.page(a[0], a[1], a[2]);
-      case "cut": return press.cut(a[0], a[1]);
-      case "lose": return press.lose(a[0]);
-      case "copyRow": return press.copyRow(a[0], a[1], a[2], a[3], a[4]);
-      case "copyLines": return press.copyLines(a[0], a[1], a[2]);
-      case "copied": return press.copied();
-      case "emboss": return press.emboss(a[0], a[1]);
-      case "closed": return press.closed();
-      case "read": return press.read(a[0], a[1], a[2]);
-      case "letter": return press.letter(a[0]);
-      case "failed": return press.failed(a[0], a[1] != 0);
-      case "readings": return press.readings(a[0], a[1], a[2]);
-      case "more": return press.more();
-      case "reading": return press.reading(a[0], a[1]);
-      case "judge": return press.judge(a[0]);
-      case "parts": return press.parts(a[0], a[1], a[2]);
-      case "unreadable": return press.unreadable(a[0], a[1], a[2]);
-      case "saved": return press.saved(a[0], a[1]);
-      case "place": return press.place();
-      case "finds": return press.finds(a[0]);
-      case "status": return press.status();
-      case "digest": return press.digest();
-      default: throw new IllegalStateException(name);
     }
   }
 }

@@ -37,45 +37,6 @@ public final class ReadingTest {
     return x;
   }
 
-  /**
-   * Makes LINES of these CELLS, and one of BLANKS behind them: by a TABLE that has a LETTER for
-   * each CELL, and is taken back; the BLANKS come in by copying.
-   */
-  private static void lay(DotPress x, int[]... lines) {
-    int changes = 1;
-    int t = x.table(0, 8, 0);
-    StringBuilder text = new StringBuilder();
-    for (int[] line : lines) {
-      for (int cell : line) {
-        if (cell != 0) {
-          char letter = (char) ('!' + changes);
-          Check.rule(x, t, 0, String.valueOf(letter), cell);
-          text.append(letter);
-          changes++;
-        }
-      }
-      text.append('\n');
-    }
-    Check.text(x, text.append('\n').toString());
-    x.set(t);
-    for (int l = 0; l < lines.length; l++) {
-      spread(x, l, lines[l], lines.length);
-    }
-    for (int i = 0; i < changes; i++) {
-      x.undo();
-    }
-  }
-
-  private static void spread(DotPress x, int l, int[] cells, int blanks) {
-    int from = x.length(l);
-    x.cut(l, cells.length);
-    x.cut(blanks, 1);
-    for (int i = cells.length - 1; i >= 0; i--) {
-      from -= cells[i] == 0 ? 0 : 1;
-      x.copyRow(cells[i] == 0 ? blanks : l, cells[i] == 0 ? 0 : from, l, i, 1);
-    }
-  }
-
   private void reads(DotPress x, int t, int from, int n, String due) {
     c.done(x, "read for [" + due + "]", x.read(t, from, n), due.length());
     c.same("READ", Check.bytesRead(x), due);
@@ -121,7 +82,7 @@ public final class ReadingTest {
     Check.rule(x, 0, 0, "c", 1, 2);
     Check.rule(x, 0, 0, "d", 2);
     Check.rule(x, 0, 3, "theend", 3);
-    lay(x, new int[] {1, 1, 2, 2, 0, 1, 0, 2, 3, 3});
+    Check.lay(x, new int[] {1, 1, 2, 2, 0, 1, 0, 2, 3, 3});
     reads(x, 0, 0, 1, "abd a dtheendtheend");
     // BASES behind the own ROWS
     x.table(1, 8, 0);
@@ -146,20 +107,20 @@ public final class ReadingTest {
     Check.rule(x, 1, 0, "`", 22);
     Check.indicator(x, 1, 0, 7);
     Check.indicator(x, 1, 1, 8, 8);
-    lay(x, new int[] {7, 1, 2, 8, 8, 1, 1, 0, 8, 8, 0, 7, 5});
+    Check.lay(x, new int[] {7, 1, 2, 8, 8, 1, 1, 0, 8, 8, 0, 7, 5});
     reads(x, 1, 0, 1, "Ab1  E");
     x.cut(0, 11);
     reads(x, 1, 0, 1, "Ab1 ");
     // the BASE's CAPITAL is no ROW
     Check.indicator(x, 0, 0, 9);
-    lay(x, new int[] {9, 1});
+    Check.lay(x, new int[] {9, 1});
     reads(x, 0, 0, 1, "A");
     wrong(x, 1, 0, 1, 0);
     // a RULE of several LETTERS, the first one great
     Check.rule(x, 1, 0, "abba", 10);
-    lay(x, new int[] {7, 10, 10});
+    Check.lay(x, new int[] {7, 10, 10});
     reads(x, 1, 0, 1, "Abbaabba");
-    lay(x, new int[] {7, 20}, new int[] {7, 21}, new int[] {7, 22});
+    Check.lay(x, new int[] {7, 20}, new int[] {7, 21}, new int[] {7, 22});
     reads(x, 1, 0, 1, "Z");
     wrong(x, 1, 1, 1, 1001);
     wrong(x, 1, 2, 1, 2001);
@@ -172,15 +133,15 @@ public final class ReadingTest {
     int j = x.join(0, second);
     Check.indicator(x, j, 2, 6);
     Check.indicator(x, j, 3, 7);
-    lay(x, new int[] {1, 6, 1, 7, 1, 6, 2, 0, 2, 6, 0, 6, 7});
+    Check.lay(x, new int[] {1, 6, 1, 7, 1, 6, 2, 0, 2, 6, 0, 6, 7});
     reads(x, j, 0, 1, "a<v>a<w b< <>");
-    lay(x, new int[] {1, 7});
+    Check.lay(x, new int[] {1, 7});
     wrong(x, j, 0, 1, 1);
-    lay(x, new int[] {6, 1, 6});
+    Check.lay(x, new int[] {6, 1, 6});
     wrong(x, j, 0, 1, 2);
     // CAPITAL goes not over a CHANGE
     Check.indicator(x, 0, 0, 8);
-    lay(x, new int[] {8, 1, 8, 6, 1});
+    Check.lay(x, new int[] {8, 1, 8, 6, 1});
     wrong(x, j, 0, 1, 3);
     x.cut(0, 2);
     reads(x, j, 0, 1, "A");
@@ -198,19 +159,19 @@ public final class ReadingTest {
     reads(x, 0, 0, 2, "abcd");
     reads(x, 0, 1, 3, "cdeab b");
     // a HYPHEN elsewhere is a CELL as others are
-    lay(x, new int[] {1, 36, 1});
+    Check.lay(x, new int[] {1, 36, 1});
     wrong(x, 0, 0, 1, 1);
-    lay(x, new int[] {1, 36}, new int[] {36}, new int[] {2}, new int[] {3, 36, 36}, new int[] {1});
+    Check.lay(x, new int[] {1, 36}, new int[] {36}, new int[] {2}, new int[] {3, 36, 36}, new int[] {1});
     reads(x, 0, 0, 3, "ab");
     wrong(x, 0, 0, 5, 3001);
     // a BLANK ahead of the HYPHEN, or behind it
-    lay(x, new int[] {1, 0, 36}, new int[] {2, 36}, new int[] {0, 3});
+    Check.lay(x, new int[] {1, 0, 36}, new int[] {2, 36}, new int[] {0, 3});
     reads(x, 0, 0, 3, "a b c");
     x.measure(4, 25, 3);
     reads(x, 0, 2, 1, "");
     // ROWS go over the end of a LINE
     Check.rule(x, 0, 0, "z", 4, 5, 6);
-    lay(x, new int[] {1, 4, 3}, new int[] {5, 3}, new int[] {6, 1});
+    Check.lay(x, new int[] {1, 4, 3}, new int[] {5, 3}, new int[] {6, 1});
     reads(x, 0, 0, 3, "aza");
     c.due("digits of a place", x.read(0, 2, 1), -1);
     c.due("place()", x.place(), 2000);
@@ -247,28 +208,28 @@ public final class ReadingTest {
     DotPress x = press();
     Check.indicator(x, 0, 0, 9, 9);
     Check.rule(x, 0, 0, "A", 10);
-    lay(x, new int[] {1, 2}, new int[] {0, 3, 11, 1});
+    Check.lay(x, new int[] {1, 2}, new int[] {0, 3, 11, 1});
     wrong(x, 0, 0, 2, 1002);
     wrong(x, 0, 1, 1, 1002);
     reads(x, 0, 0, 1, "ab");
     // behind a CAPITAL: another CAPITAL, a RULE that begins otherwise, nothing, the end
-    lay(x, new int[] {1, 9, 9, 9, 9, 1});
+    Check.lay(x, new int[] {1, 9, 9, 9, 9, 1});
     wrong(x, 0, 0, 1, 3);
-    lay(x, new int[] {9, 9, 10});
+    Check.lay(x, new int[] {9, 9, 10});
     wrong(x, 0, 0, 1, 2);
-    lay(x, new int[] {9, 9, 50});
+    Check.lay(x, new int[] {9, 9, 50});
     wrong(x, 0, 0, 1, 2);
-    lay(x, new int[] {1, 9, 9}, new int[] {1});
+    Check.lay(x, new int[] {1, 9, 9}, new int[] {1});
     wrong(x, 0, 0, 2, 3);
-    lay(x, new int[] {1}, new int[] {9, 9, 0, 1});
+    Check.lay(x, new int[] {1}, new int[] {9, 9, 0, 1});
     wrong(x, 0, 0, 2, 1002);
-    lay(x, new int[] {1}, new int[] {1, 9, 9, 36}, new int[] {10});
+    Check.lay(x, new int[] {1}, new int[] {1, 9, 9, 36}, new int[] {10});
     wrong(x, 0, 0, 3, 2000);
     wrong(x, 0, 0, 2, 1003);
-    lay(x, new int[] {1}, new int[] {9, 36}, new int[] {9, 36}, new int[] {0, 1});
+    Check.lay(x, new int[] {1}, new int[] {9, 36}, new int[] {9, 36}, new int[] {0, 1});
     wrong(x, 0, 0, 4, 2001);
     // a part of a CAPITAL is none
-    lay(x, new int[] {9, 1});
+    Check.lay(x, new int[] {9, 1});
     wrong(x, 0, 0, 1, 0);
   }
 
@@ -351,7 +312,7 @@ public final class ReadingTest {
     Check.rule(x, 0, 0, "a", 1);
     Check.rule(x, 0, 0, "b", 1, 2);
     Check.rule(x, 0, 0, "c", 2);
-    lay(x, new int[] {1, 2, 0, 1});
+    Check.lay(x, new int[] {1, 2, 0, 1});
     given(x, 0, 0, 50, 0, "ac a", "b a");
     given(x, 0, 0, 2, 0, "ac a", "b a");
     given(x, 0, 0, 1, 1, "ac a");
@@ -367,12 +328,12 @@ public final class ReadingTest {
     given(x, 0, 0, 3, 1, "a  a", "a ca", "ac a");
     // none at all, and a LINE without CELLS
     x.failed(1, false);
-    lay(x, new int[] {1, 3});
+    Check.lay(x, new int[] {1, 3});
     given(x, 0, 0, 50, 0);
     x.cut(0, 0);
     given(x, 0, 0, 1, 0, "");
     c.refused(x, "no byte", x.reading(0, 0), 2);
-    lay(x, new int[] {0, 0, 0});
+    Check.lay(x, new int[] {0, 0, 0});
     given(x, 0, 0, 1, 0, "   ");
   }
 
@@ -384,7 +345,7 @@ public final class ReadingTest {
     Check.rule(x, 1, 0, "long", 1, 1);
     Check.rule(x, 1, 0, "y", 1);
     Check.rule(x, 1, 0, "y", 1);
-    lay(x, new int[] {1, 1});
+    Check.lay(x, new int[] {1, 1});
     given(x, 1, 0, 50, 0, "long", "yy", "yy", "yz", "yy", "yy", "yz", "zy", "zy", "zz");
   }
 
@@ -397,14 +358,14 @@ public final class ReadingTest {
     Check.rule(x, 1, 0, "1", 1);
     Check.indicator(x, 1, 0, 3);
     Check.indicator(x, 1, 1, 3);
-    lay(x, new int[] {3, 1, 3});
+    Check.lay(x, new int[] {3, 1, 3});
     // CAPITAL ahead of b alone, and not at the end; NUMBER gives nothing
     given(x, 1, 0, 50, 0, "B", "1", "b");
-    lay(x, new int[] {3, 2});
+    Check.lay(x, new int[] {3, 2});
     given(x, 1, 0, 50, 0, "B");
-    lay(x, new int[] {3, 0});
+    Check.lay(x, new int[] {3, 0});
     given(x, 1, 0, 50, 0, " ");
-    lay(x, new int[] {3, 3, 1});
+    Check.lay(x, new int[] {3, 3, 1});
     given(x, 1, 0, 50, 0, "B", "1", "b");
   }
 
@@ -417,12 +378,12 @@ public final class ReadingTest {
     int j = x.join(0, 1);
     Check.indicator(x, j, 2, 1);
     Check.indicator(x, j, 3, 1);
-    lay(x, new int[] {1, 1, 1});
+    Check.lay(x, new int[] {1, 1, 1});
     given(x, j, 0, 50, 0, "aaa", "aa<", "a<v", "a<>", "<vv", "<v>", "<>a", "<><");
-    lay(x, new int[] {1, 0, 1});
+    Check.lay(x, new int[] {1, 0, 1});
     given(x, j, 0, 50, 0, "a a", "a <", "< a", "< <");
     x.failed(0, true);
-    lay(x, new int[] {1, 1});
+    Check.lay(x, new int[] {1, 1});
     given(x, j, 0, 50, 0, "  ", " a", " <", "a ", "aa", "a<", "< ", "<v", "<>");
     x.failed(0, false);
     // without a BACK a SECOND part goes on to a BLANK

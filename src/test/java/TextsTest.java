@@ -43,24 +43,6 @@ public final class TextsTest {
     return x;
   }
 
-  private void laid(DotPress x, int t, String text, String... due) {
-    Check.text(x, text);
-    c.done(x, "set of [" + text + "]", x.set(t), due.length);
-    c.due("lines()", x.lines(), due.length);
-    for (int l = 0; l < due.length; l++) {
-      c.same("LINE " + l + " of [" + text + "]", Check.line(x, l), due[l]);
-    }
-  }
-
-  private void unknown(DotPress x, int t, String text, int place) {
-    Check.text(x, text);
-    int lines = x.lines();
-    c.due("set of [" + text + "]", x.set(t), -1);
-    c.due("status()", x.status(), 7);
-    c.due("place() in [" + text + "]", x.place(), place);
-    c.due("LINES stay", x.lines(), lines);
-  }
-
   private void text() {
     c.promise(11, "text");
     DotPress x = press(10);
@@ -94,7 +76,7 @@ public final class TextsTest {
   private void measure() {
     c.promise(12, "measure");
     DotPress x = press(5);
-    laid(x, 0, "abc de", "1 2 3", "4 5");
+    c.laid(x, 0, "abc de", "1 2 3", "4 5");
     c.refused(x, "WIDTH 0", x.measure(0, 1, 1), 6);
     c.refused(x, "WIDTH 101", x.measure(101, 1, 1), 6);
     c.refused(x, "HEIGHT 0", x.measure(1, 0, 1), 6);
@@ -109,19 +91,19 @@ public final class TextsTest {
     c.same("LINES stay", Check.line(x, 0), "1 2 3");
     c.due("PAGES of one LINE", x.pages(), 2);
     c.done(x, "the most", x.measure(100, 50, 255), 1);
-    laid(x, 0, "a".repeat(99) + "~" + "bb", "1 ".repeat(99) + "255", "2 2");
+    c.laid(x, 0, "a".repeat(99) + "~" + "bb", "1 ".repeat(99) + "255", "2 2");
   }
 
   private void setLines() {
     c.promise(13, "set");
     DotPress x = press(5);
-    laid(x, 0, "ab cd", "1 2 0 3 4");
-    laid(x, 0, "ab cde", "1 2", "3 4 5");
-    laid(x, 0, "  ab   cd  ", "1 2 0 3 4");
-    laid(x, 0, "a b c d", "1 0 2 0 3", "4");
-    laid(x, 0, "abcde a", "1 2 3 4 5", "1");
-    laid(x, 0, "a\nb", "1", "2");
-    laid(x, 0, "a~b ~ ~~ ~c~", "1 2 0 3");
+    c.laid(x, 0, "ab cd", "1 2 0 3 4");
+    c.laid(x, 0, "ab cde", "1 2", "3 4 5");
+    c.laid(x, 0, "  ab   cd  ", "1 2 0 3 4");
+    c.laid(x, 0, "a b c d", "1 0 2 0 3", "4");
+    c.laid(x, 0, "abcde a", "1 2 3 4 5", "1");
+    c.laid(x, 0, "a\nb", "1", "2");
+    c.laid(x, 0, "a~b ~ ~~ ~c~", "1 2 0 3");
     Check.text(x, "ab");
     c.done(x, "once", x.set(0), 1);
     c.done(x, "twice, all anew", x.set(0), 1);
@@ -130,12 +112,12 @@ public final class TextsTest {
   private void setEmptyLines() {
     c.promise(13, "empty lines of TEXT");
     DotPress x = press(5);
-    laid(x, 0, "");
-    laid(x, 0, "\n", "");
-    laid(x, 0, "a\n", "1");
-    laid(x, 0, "\na", "", "1");
-    laid(x, 0, "a\n\n\nb", "1", "", "", "2");
-    laid(x, 0, "  \n~\n^\na", "", "", "", "1");
+    c.laid(x, 0, "");
+    c.laid(x, 0, "\n", "");
+    c.laid(x, 0, "a\n", "1");
+    c.laid(x, 0, "\na", "", "1");
+    c.laid(x, 0, "a\n\n\nb", "1", "", "", "2");
+    c.laid(x, 0, "  \n~\n^\na", "", "", "", "1");
   }
 
   private void setFinds() {
@@ -145,45 +127,45 @@ public final class TextsTest {
     Check.rule(x, 0, 0, "ab", 10);
     Check.rule(x, 0, 0, "ab", 11);
     Check.rule(x, 0, 0, "bcd", 12);
-    laid(x, 0, "abcd bcd", "10 3 4 0 12");
-    laid(x, 0, "a~bcd", "10 3 4");
+    c.laid(x, 0, "abcd bcd", "10 3 4 0 12");
+    c.laid(x, 0, "a~bcd", "10 3 4");
     x.table(1, 8, 0);
     Check.rule(x, 1, 0, "ab", 20);
     Check.rule(x, 1, 0, "b", 21);
     Check.rule(x, 1, 0, "a", 22);
-    laid(x, 1, "abcd bcd b aa", "20 3 4 0 12 0 21 0 22 22");
+    c.laid(x, 1, "abcd bcd b aa", "20 3 4 0 12 0 21 0 22 22");
     x.table(1, 8, 1);
     Check.rule(x, 2, 1, "a", 30);
-    laid(x, 2, "aba aac", "20 22 0 30 22 3");
+    c.laid(x, 2, "aba aac", "20 22 0 30 22 3");
     x.measure(20, 25, 36);
     // a RULE does not go over the end of a WORD
-    laid(x, 0, "a b", "1 0 2");
+    c.laid(x, 0, "a b", "1 0 2");
   }
 
   private void setCapitals() {
     c.promise(13, "CAPITAL");
     DotPress x = press(20);
-    unknown(x, 0, "aB", 1);
+    c.unknown(x, 0, "aB", 1);
     Check.indicator(x, 0, 0, 40, 41);
-    laid(x, 0, "aB", "1 40 41 2");
+    c.laid(x, 0, "aB", "1 40 41 2");
     Check.rule(x, 0, 0, "B", 50);
     Check.rule(x, 0, 0, "bcd", 12);
     Check.rule(x, 0, 0, "bD", 13);
-    laid(x, 0, "BA", "50 40 41 1");
-    laid(x, 0, "bD", "13");
-    laid(x, 0, "Cbcd", "40 41 3 12");
-    unknown(x, 0, "Z", 0);
+    c.laid(x, 0, "BA", "50 40 41 1");
+    c.laid(x, 0, "bD", "13");
+    c.laid(x, 0, "Cbcd", "40 41 3 12");
+    c.unknown(x, 0, "Z", 0);
     x.undo();
     x.undo();
     x.undo();
     // only the byte at the place is taken as a small one
     Check.rule(x, 0, 0, "bc", 14);
-    laid(x, 0, "Bc BC", "40 41 14 0 40 41 2 40 41 3");
+    c.laid(x, 0, "Bc BC", "40 41 14 0 40 41 2 40 41 3");
     // the CAPITAL is the TABLE's own
     x.table(1, 8, 0);
-    unknown(x, 1, "aB", 1);
+    c.unknown(x, 1, "aB", 1);
     Check.indicator(x, 1, 0, 60);
-    laid(x, 1, "aB", "1 60 2");
+    c.laid(x, 1, "aB", "1 60 2");
   }
 
   private void setNumbers() {
@@ -194,23 +176,23 @@ public final class TextsTest {
     Check.rule(x, 1, 0, "2", 22);
     Check.rule(x, 1, 0, "3", 23);
     Check.rule(x, 1, 0, "a", 99);
-    laid(x, 1, "a23", "1 22 23");
+    c.laid(x, 1, "a23", "1 22 23");
     Check.indicator(x, 1, 1, 60, 61);
-    laid(x, 1, "a23 3a", "1 60 61 22 23 0 60 61 23 1");
+    c.laid(x, 1, "a23 3a", "1 60 61 22 23 0 60 61 23 1");
     // each row of digits has its own NUMBER
-    laid(x, 1, "2a3", "60 61 22 1 60 61 23");
+    c.laid(x, 1, "2a3", "60 61 22 1 60 61 23");
     // the BASE's RULES are not for digits
-    unknown(x, 1, "a1", 1);
-    laid(x, 0, "a1", "1 11");
+    c.unknown(x, 1, "a1", 1);
+    c.laid(x, 0, "a1", "1 11");
     // as a BASE it has no NUMBER, but FIND is its own
     x.table(1, 8, 1);
-    laid(x, 2, "a23", "1 22 23");
-    unknown(x, 2, "a1", 1);
+    c.laid(x, 2, "a23", "1 22 23");
+    c.unknown(x, 2, "a1", 1);
     // a digit inside a RULE is a digit ahead
     Check.rule(x, 0, 0, "b1", 12);
-    laid(x, 1, "b12", "12 22");
+    c.laid(x, 1, "b12", "12 22");
     Check.indicator(x, 1, 0, 50);
-    laid(x, 1, "A2", "50 1 60 61 22");
+    c.laid(x, 1, "A2", "50 1 60 61 22");
   }
 
   private void setEdges() {
@@ -223,15 +205,15 @@ public final class TextsTest {
     Check.rule(x, 1, 0, "9", 19);
     Check.rule(x, 1, 0, "/", 99);
     Check.indicator(x, 1, 1, 60);
-    laid(x, 1, "09 90a0 9", "60 10 19 0 60 19 10 1 60 10 0 60 19");
-    laid(x, 1, "/:0", "3 4 60 10");
-    laid(x, 0, "AZ@[`{az", "50 1 50 2 5 6 7 8 1 2");
+    c.laid(x, 1, "09 90a0 9", "60 10 19 0 60 19 10 1 60 10 0 60 19");
+    c.laid(x, 1, "/:0", "3 4 60 10");
+    c.laid(x, 0, "AZ@[`{az", "50 1 50 2 5 6 7 8 1 2");
     x.table(3, 8, 0);
-    laid(x, 2, "AZ@[", "1 2 5 6");
+    c.laid(x, 2, "AZ@[", "1 2 5 6");
     // beside a digit it is not broken, beside others it is
     x.measure(3, 25, 36);
-    laid(x, 1, "a0~aa a9~aa", "1 60 10 1 1", "1 60 19 1 1");
-    laid(x, 1, "a/~aa a:~aa", "1 3 36", "1 1", "1 4 36", "1 1");
+    c.laid(x, 1, "a0~aa a9~aa", "1 60 10 1 1", "1 60 19 1 1");
+    c.laid(x, 1, "a/~aa a:~aa", "1 3 36", "1 1", "1 4 36", "1 1");
   }
 
   private void setShort() {
@@ -240,25 +222,25 @@ public final class TextsTest {
     Check.indicator(x, 0, 0, 50);
     x.table(3, 8, 0);
     Check.rule(x, 1, 0, "ab", 10);
-    laid(x, 1, "ab Ab aB A", "10 0 10 0 1 2 0 1");
+    c.laid(x, 1, "ab Ab aB A", "10 0 10 0 1 2 0 1");
     x.table(1, 8, 1);
     Check.rule(x, 2, 0, "A", 20);
-    laid(x, 2, "Ab AC aA", "10 0 20 3 0 1 20");
-    unknown(x, 1, "aX", 1);
+    c.laid(x, 2, "Ab AC aA", "10 0 20 3 0 1 20");
+    c.unknown(x, 1, "aX", 1);
   }
 
   private void setMusic() {
     c.promise(13, "Music");
     DotPress x = press(30);
     x.table(4, 8, 0);
-    unknown(x, 1, "a", 0);
+    c.unknown(x, 1, "a", 0);
     Check.rule(x, 1, 0, "a", 70);
     Check.rule(x, 1, 0, "aa", 71);
-    laid(x, 1, "aaa", "71 70");
-    unknown(x, 1, "aA", 1);
+    c.laid(x, 1, "aaa", "71 70");
+    c.unknown(x, 1, "aA", 1);
     x.measure(3, 5, 36);
     Check.rule(x, 1, 0, "b", 72);
-    laid(x, 1, "bb~bb b~b", "72 72 72 72", "72 72");
+    c.laid(x, 1, "bb~bb b~b", "72 72 72 72", "72 72");
   }
 
   private void setJoined() {
@@ -266,38 +248,38 @@ public final class TextsTest {
     DotPress x = press(30);
     int second = Check.plain(x, "vwxyz");
     int j = x.join(0, second);
-    unknown(x, j, "ab<v", 2);
+    c.unknown(x, j, "ab<v", 2);
     Check.indicator(x, j, 2, 60, 61);
-    laid(x, j, "ab<vw a", "1 2 60 61 1 2 0 1");
-    unknown(x, j, "ab<v>a", 4);
+    c.laid(x, j, "ab<vw a", "1 2 60 61 1 2 0 1");
+    c.unknown(x, j, "ab<v>a", 4);
     Check.indicator(x, j, 3, 62);
-    laid(x, j, "ab<v>a<w", "1 2 60 61 1 62 1 60 61 2");
-    laid(x, j, "<> < a<", "60 61 62 0 60 61 0 1 60 61");
-    unknown(x, j, "a>b", 1);
-    unknown(x, j, "<<", 1);
-    unknown(x, j, "<a", 1);
-    unknown(x, j, "v", 0);
+    c.laid(x, j, "ab<v>a<w", "1 2 60 61 1 62 1 60 61 2");
+    c.laid(x, j, "<> < a<", "60 61 62 0 60 61 0 1 60 61");
+    c.unknown(x, j, "a>b", 1);
+    c.unknown(x, j, "<<", 1);
+    c.unknown(x, j, "<a", 1);
+    c.unknown(x, j, "v", 0);
     // each WORD begins in FIRST
-    unknown(x, j, "<v v", 3);
+    c.unknown(x, j, "<v v", 3);
     // > in FIRST's part and < in SECOND's are LETTERS
     Check.rule(x, 0, 0, ">", 7);
     Check.rule(x, second, 0, "<", 8);
-    laid(x, j, "a><<><<>", "1 7 60 61 8 62 60 61 8 62");
+    c.laid(x, j, "a><<><<>", "1 7 60 61 8 62 60 61 8 62");
     // its parts are WORDS of their own
     Check.rule(x, 0, 4, "ab", 9);
     Check.rule(x, second, 3, "vw", 10);
-    laid(x, j, "ab<vwvw>ab<vwx>abc", "9 60 61 1 2 10 62 9 60 61 1 2 3 62 1 2 3");
+    c.laid(x, j, "ab<vwvw>ab<vwx>abc", "9 60 61 1 2 10 62 9 60 61 1 2 3 62 1 2 3");
     // a Joined is not broken
     x.measure(3, 5, 36);
-    laid(x, j, "ab~cd b", "1 2 3 4", "2");
+    c.laid(x, j, "ab~cd b", "1 2 3 4", "2");
     Check.indicator(x, 0, 0, 50);
-    laid(x, j, "B", "50 2");
+    c.laid(x, j, "B", "50 2");
   }
 
   private void setRefused() {
     c.promise(13, "set refused by its TABLE");
     DotPress x = press(30);
-    laid(x, 0, "ab", "1 2");
+    c.laid(x, 0, "ab", "1 2");
     c.refused(x, "set(-1)", x.set(-1), 3);
     c.refused(x, "set(1)", x.set(1), 3);
     x.table(1, 8, 0);
@@ -317,12 +299,12 @@ public final class TextsTest {
   private void setUnknown() {
     c.promise(13, "UNKNOWN");
     DotPress x = press(30);
-    laid(x, 0, "ab", "1 2");
-    unknown(x, 0, "xa", 0);
-    unknown(x, 0, "a~~bx", 4);
-    unknown(x, 0, "a\n^a x x", 5);
-    unknown(x, 0, "^^a", 1);
-    unknown(x, 0, "a^", 1);
+    c.laid(x, 0, "ab", "1 2");
+    c.unknown(x, 0, "xa", 0);
+    c.unknown(x, 0, "a~~bx", 4);
+    c.unknown(x, 0, "a\n^a x x", 5);
+    c.unknown(x, 0, "^^a", 1);
+    c.unknown(x, 0, "a^", 1);
     c.same("LINES stay", Check.line(x, 0), "1 2");
     c.due("place()", x.place(), -1);
     // what has been found until then is counted
@@ -335,7 +317,7 @@ public final class TextsTest {
   private void setTooMuch() {
     c.promise(13, "too many LINES or CELLS");
     DotPress x = press(1);
-    laid(x, 0, "a", "1");
+    c.laid(x, 0, "a", "1");
     Check.text(x, "\n".repeat(200));
     c.done(x, "200 LINES", x.set(0), 200);
     Check.text(x, "\n".repeat(200) + "x");
@@ -350,7 +332,7 @@ public final class TextsTest {
     c.due("place()", x.place(), 400);
     c.due("LINES stay", x.lines(), 200);
     Check.rule(x, 0, 0, "f", 6, 6, 6, 6);
-    laid(x, 0, "f".repeat(50), "6 ".repeat(199) + "6");
+    c.laid(x, 0, "f".repeat(50), "6 ".repeat(199) + "6");
     Check.text(x, "f".repeat(50) + "ax");
     c.refused(x, "201 CELLS", x.set(0), 6);
     Check.text(x, "f".repeat(49) + "x" + "f".repeat(10));
@@ -378,79 +360,79 @@ public final class TextsTest {
   private void breaks() {
     c.promise(13, "breaking WORDS");
     DotPress x = press(6);
-    laid(x, 0, "abc~d~e", "1 2 3 4 5");
-    laid(x, 0, "a~b~c~d~eab", "1 2 3 4 36", "5 1 2");
-    laid(x, 0, "abc c~d~e", "1 2 3 0 3 36", "4 5");
-    laid(x, 0, "ab cd~eb", "1 2 0 3 4 36", "5 2");
-    laid(x, 0, "ab cde~b", "1 2", "3 4 5 2");
-    laid(x, 0, "abc de~e", "1 2 3", "4 5 5");
-    laid(x, 0, "ab~cd~ea~bc~dea ab", "1 2 3 4 36", "5 1 2 3 36", "4 5 1 0 1 2");
-    laid(x, 0, "~abcdeab~", "1 2 3 4 5 1 2");
-    laid(x, 0, "abc~~~deab", "1 2 3 36", "4 5 1 2");
+    c.laid(x, 0, "abc~d~e", "1 2 3 4 5");
+    c.laid(x, 0, "a~b~c~d~eab", "1 2 3 4 36", "5 1 2");
+    c.laid(x, 0, "abc c~d~e", "1 2 3 0 3 36", "4 5");
+    c.laid(x, 0, "ab cd~eb", "1 2 0 3 4 36", "5 2");
+    c.laid(x, 0, "ab cde~b", "1 2", "3 4 5 2");
+    c.laid(x, 0, "abc de~e", "1 2 3", "4 5 5");
+    c.laid(x, 0, "ab~cd~ea~bc~dea ab", "1 2 3 4 36", "5 1 2 3 36", "4 5 1 0 1 2");
+    c.laid(x, 0, "~abcdeab~", "1 2 3 4 5 1 2");
+    c.laid(x, 0, "abc~~~deab", "1 2 3 36", "4 5 1 2");
     // a place inside a RULE is none
     Check.rule(x, 0, 0, "cd", 9);
-    laid(x, 0, "abc~deabc", "1 2 9 5 1 2 3");
-    laid(x, 0, "ab~c~deabc", "1 2 36", "9 5 1 2 3");
+    c.laid(x, 0, "abc~deabc", "1 2 9 5 1 2 3");
+    c.laid(x, 0, "ab~c~deabc", "1 2 36", "9 5 1 2 3");
     // the CELLS are those of the whole WORD
     Check.rule(x, 0, 3, "ab", 10);
-    laid(x, 0, "abab~aaab", "1 2 1 2 36", "1 1 10");
+    c.laid(x, 0, "abab~aaab", "1 2 1 2 36", "1 1 10");
     // indicators belong to what is behind them
     Check.indicator(x, 0, 0, 40, 41);
-    laid(x, 0, "aa~Aaaa", "1 1 36", "40 41 1 1 1 1");
-    laid(x, 0, "a~A~Aa", "1 40 41 1 36", "40 41 1 1");
+    c.laid(x, 0, "aa~Aaaa", "1 1 36", "40 41 1 1 1 1");
+    c.laid(x, 0, "a~A~Aa", "1 40 41 1 36", "40 41 1 1");
     // all that fits is not broken, also at the edge
-    laid(x, 0, "aa aa~a", "1 1 0 1 1 1");
-    laid(x, 0, "ba aa~aa a", "2 1 0 1 1 36", "1 1 0 1");
+    c.laid(x, 0, "aa aa~a", "1 1 0 1 1 1");
+    c.laid(x, 0, "ba aa~aa a", "2 1 0 1 1 36", "1 1 0 1");
   }
 
   private void breaksByKind() {
     c.promise(13, "breaking WORDS by KIND");
     DotPress x = press(4);
     x.table(1, 8, 0);
-    laid(x, 1, "aa~aaa", "1 1 36", "1 1 1");
+    c.laid(x, 1, "aa~aaa", "1 1 36", "1 1 1");
     x.table(2, 8, 0);
     Check.rule(x, 2, 0, "1", 11);
-    laid(x, 2, "aa~aaa", "1 1 36", "1 1 1");
-    laid(x, 2, "a1~aaa", "1 11 1 1 1");
-    laid(x, 2, "aa~1aa", "1 1 11 1 1");
-    laid(x, 2, "1a~a1a", "11 1 36", "1 11 1");
-    laid(x, 2, "1~1~11~~11", "11 11 11 11 11 11");
+    c.laid(x, 2, "aa~aaa", "1 1 36", "1 1 1");
+    c.laid(x, 2, "a1~aaa", "1 11 1 1 1");
+    c.laid(x, 2, "aa~1aa", "1 1 11 1 1");
+    c.laid(x, 2, "1a~a1a", "11 1 36", "1 11 1");
+    c.laid(x, 2, "1~1~11~~11", "11 11 11 11 11 11");
     x.table(3, 8, 0);
-    laid(x, 3, "aa~aaa", "1 1 1 1 1");
-    laid(x, 3, "aa~aaaa", "1 1 36", "1 1 1 1");
-    laid(x, 3, "aa~a~a~a~a", "1 1 1 36", "1 1 1");
+    c.laid(x, 3, "aa~aaa", "1 1 1 1 1");
+    c.laid(x, 3, "aa~aaaa", "1 1 36", "1 1 1 1");
+    c.laid(x, 3, "aa~a~a~a~a", "1 1 1 36", "1 1 1");
   }
 
   private void longLines() {
     c.promise(13, "LONG LINES");
     DotPress x = press(3);
-    laid(x, 0, "abcd", "1 2 3 4");
-    laid(x, 0, "a abcd a b", "1", "1 2 3 4", "1 0 2");
-    laid(x, 0, "abc~de", "1 2 3 4 5");
-    laid(x, 0, "ab~cdea", "1 2 36", "3 4 5 1");
+    c.laid(x, 0, "abcd", "1 2 3 4");
+    c.laid(x, 0, "a abcd a b", "1", "1 2 3 4", "1 0 2");
+    c.laid(x, 0, "abc~de", "1 2 3 4 5");
+    c.laid(x, 0, "ab~cdea", "1 2 36", "3 4 5 1");
     x.measure(1, 5, 36);
-    laid(x, 0, "a~b c", "1 2", "3");
+    c.laid(x, 0, "a~b c", "1 2", "3");
   }
 
   private void centred() {
     c.promise(13, "CENTRED");
     DotPress x = press(6);
-    laid(x, 0, "^ab", "0 0 1 2");
-    laid(x, 0, "^abc", "0 1 2 3");
-    laid(x, 0, "^abcde", "1 2 3 4 5");
-    laid(x, 0, "^ ab\nab\n^\n^a", "0 0 1 2", "1 2", "", "0 0 1");
-    unknown(x, 0, " ^", 1);
-    laid(x, 0, "^abcd bcde", "0 1 2 3 4", "0 2 3 4 5");
-    laid(x, 0, "^abcdeab a\na", "1 2 3 4 5 1 2", "0 0 1", "1");
-    laid(x, 0, "^abc~deabc", "0 1 2 3 36", "4 5 1 2 3");
+    c.laid(x, 0, "^ab", "0 0 1 2");
+    c.laid(x, 0, "^abc", "0 1 2 3");
+    c.laid(x, 0, "^abcde", "1 2 3 4 5");
+    c.laid(x, 0, "^ ab\nab\n^\n^a", "0 0 1 2", "1 2", "", "0 0 1");
+    c.unknown(x, 0, " ^", 1);
+    c.laid(x, 0, "^abcd bcde", "0 1 2 3 4", "0 2 3 4 5");
+    c.laid(x, 0, "^abcdeab a\na", "1 2 3 4 5 1 2", "0 0 1", "1");
+    c.laid(x, 0, "^abc~deabc", "0 1 2 3 36", "4 5 1 2 3");
     Check.rule(x, 0, 0, "^", 9);
-    laid(x, 0, "^^a ^", "0 9 1 0 9");
+    c.laid(x, 0, "^^a ^", "0 9 1 0 9");
   }
 
   private void head() {
     c.promise(14, "head");
     DotPress x = press(4);
-    laid(x, 0, "a b c d e", "1 0 2", "3 0 4", "5");
+    c.laid(x, 0, "a b c d e", "1 0 2", "3 0 4", "5");
     c.done(x, "no HEAD", x.head(0), 0);
     c.due("PAGES", x.pages(), 1);
     c.done(x, "HEAD", Check.head(x, 0, "abc"), 3);
@@ -476,7 +458,7 @@ public final class TextsTest {
   private void headRefused() {
     c.promise(14, "head refused");
     DotPress x = press(4);
-    laid(x, 0, "a", "1");
+    c.laid(x, 0, "a", "1");
     Check.head(x, 0, "e");
     c.refused(x, "41 bytes, ahead of 3", Check.head(x, 7, "a".repeat(41)), 6);
     c.due("the TAPE is empty", x.end(1), -1);
@@ -506,7 +488,7 @@ public final class TextsTest {
     c.promise(16, "pages");
     DotPress x = press(1);
     c.due("no LINES", x.pages(), 0);
-    laid(x, 0, "a b c d e", "1", "2", "3", "4", "5");
+    c.laid(x, 0, "a b c d e", "1", "2", "3", "4", "5");
     c.promise(15, "lines");
     c.due("lines()", x.lines(), 5);
     x.lose(2);
@@ -530,7 +512,7 @@ public final class TextsTest {
   private void page() {
     c.promise(19, "page");
     DotPress x = press(2);
-    laid(x, 0, "a b c d e\nab\nbc", "1", "2", "3", "4", "5", "1 2", "2 3");
+    c.laid(x, 0, "a b c d e\nab\nbc", "1", "2", "3", "4", "5", "1 2", "2 3");
     x.measure(2, 3, 36);
     c.done(x, "PAGE 0", x.page(0, 2, 0), 3);
     c.done(x, "PAGE 1", x.page(1, 2, 1), 2);
@@ -566,7 +548,7 @@ public final class TextsTest {
 
   private void lengthAndCell() {
     DotPress x = press(5);
-    laid(x, 0, "ab c\n\nd", "1 2 0 3", "", "4");
+    c.laid(x, 0, "ab c\n\nd", "1 2 0 3", "", "4");
     x.lose(2);
     c.promise(17, "length");
     c.done(x, "length(0)", x.length(0), 4);
@@ -590,7 +572,7 @@ public final class TextsTest {
   private void cut() {
     c.promise(20, "cut");
     DotPress x = press(5);
-    laid(x, 0, "abcd\ne", "1 2 3 4", "5");
+    c.laid(x, 0, "abcd\ne", "1 2 3 4", "5");
     c.done(x, "cut(0, 2)", x.cut(0, 2), 2);
     c.same("LINE", Check.line(x, 0), "1 2");
     c.done(x, "longer", x.cut(0, 4), 4);
@@ -615,7 +597,7 @@ public final class TextsTest {
     c.promise(21, "lose");
     DotPress x = press(5);
     c.refused(x, "no LINES", x.lose(0), 2);
-    laid(x, 0, "a\nb", "1", "2");
+    c.laid(x, 0, "a\nb", "1", "2");
     c.done(x, "lose(1)", x.lose(1), 1);
     c.done(x, "again", x.lose(1), 1);
     c.refused(x, "it is lacking", x.length(1), 1);
@@ -629,7 +611,7 @@ public final class TextsTest {
   private void copyRow() {
     c.promise(22, "copyRow");
     DotPress x = press(5);
-    laid(x, 0, "abcde\nedc\na", "1 2 3 4 5", "5 4 3", "1");
+    c.laid(x, 0, "abcde\nedc\na", "1 2 3 4 5", "5 4 3", "1");
     c.done(x, "forth", x.copyRow(0, 1, 1, 0, 2), 2);
     c.same("LINE 1", Check.line(x, 1), "2 3 3");
     c.same("LINE 0", Check.line(x, 0), "1 2 3 4 5");
@@ -659,7 +641,7 @@ public final class TextsTest {
   private void copyLines() {
     c.promise(23, "copyLines");
     DotPress x = press(2);
-    laid(x, 0, "a\nbb\nc\nd\ne", "1", "2 2", "3", "4", "5");
+    c.laid(x, 0, "a\nbb\nc\nd\ne", "1", "2 2", "3", "4", "5");
     c.done(x, "forth", x.copyLines(0, 3, 2), 2);
     c.due("copied()", x.copied(), 2);
     c.same("LINE 3", Check.line(x, 3), "1");
@@ -670,7 +652,7 @@ public final class TextsTest {
     c.same("LINE 4", Check.line(x, 4), "2 2");
     c.done(x, "none", x.copyLines(-9, 99, 0), 0);
     c.due("copied()", x.copied(), 0);
-    laid(x, 0, "a\nb\nc\nd\ne", "1", "2", "3", "4", "5");
+    c.laid(x, 0, "a\nb\nc\nd\ne", "1", "2", "3", "4", "5");
     x.lose(0);
     x.lose(3);
     c.refused(x, "up to a lacking one", x.copyLines(1, 0, 4), 1);
@@ -699,7 +681,7 @@ public final class TextsTest {
     c.promise(25, "emboss");
     DotPress x = press(4);
     Check.rule(x, 0, 0, "f", 255);
-    laid(x, 0, "abc\nf f\n\nabcde\nf", "1 2 3", "255 0 255", "", "1 2 3 4 5", "255");
+    c.laid(x, 0, "abc\nf f\n\nabcde\nf", "1 2 3", "255 0 255", "", "1 2 3 4 5", "255");
     c.done(x, "one", x.emboss(0, 1), 4);
     c.done(x, "three", x.emboss(0, 3), 20);
     c.promise(26, "closed");
