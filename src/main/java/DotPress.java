@@ -1109,7 +1109,8 @@ public final class DotPress {
         if (count > MOST_CELLS) {
           return NOT_AS_TOLD;
         }
-        at += rule.letters.length;
+        // at least one, so that the end is come to
+        at += Math.max(1, rule.letters.length);
       }
       return FINE;
     }
@@ -1657,7 +1658,7 @@ public final class DotPress {
         }
         row.writeLetters(bytes, greatComes);
         greatComes = row.role == CAPITAL;
-        at += row.cells.length;
+        at += Math.max(1, row.cells.length);
       }
       wrong = at;
       return greatComes ? -1 : at;

@@ -15,6 +15,7 @@ public final class ReadingEdgesTest {
     test.readWordsThatGiveNothing();
     test.readHyphens();
     test.readManyLines();
+    test.readFullLines();
     test.readFourThousand();
     test.readWrongPlaces();
     test.readWrongBehindCapital();
@@ -187,6 +188,32 @@ public final class ReadingEdgesTest {
     c.refused(x, "the last is lacking", x.read(0, 0, 200), 1);
     c.refused(x, "and 201", x.read(0, 0, 201), 1);
     c.done(x, "those ahead of it", x.read(0, 0, 199), 397);
+  }
+
+  private void readFullLines() {
+    c.promise(27, "200 LINES of 200 CELLS");
+    DotPress x = press();
+    x.table(0, 8, 0);
+    x.table(2, 8, 1);
+    Check.indicator(x, 2, 1, 1);
+    Check.rule(x, 2, 0, "d", 4);
+    Check.text(x, "a".repeat(200) + "\n".repeat(199) + "d");
+    c.done(x, "200 LINES", x.set(0), 200);
+    for (int l = 1; l < 199; l += 9) {
+      x.copyLines(0, l, 9);
+    }
+    x.cut(199, 200);
+    x.copyRow(199, 0, 199, 199, 1);
+    x.copyRow(0, 0, 199, 0, 199);
+    c.done(x, "the last CELL", x.cell(199, 199), 4);
+    c.done(x, "the last LINE", x.read(2, 199, 1), 1);
+    // NUMBERS give nothing, and each LINE is a WORD
+    c.done(x, "all", x.read(2, 0, 200), 200);
+    c.done(x, "the last byte", x.letter(199), 'd');
+    c.done(x, "the one ahead of it", x.letter(198), 32);
+    c.refused(x, "and one more LINE", x.read(2, 0, 201), 2);
+    x.undo();
+    wrong(x, 2, 0, 200, 199199);
   }
 
   private void readFourThousand() {
@@ -524,6 +551,15 @@ public final class ReadingEdgesTest {
     given(x, j, 0, 50, 0, "< <><");
     Check.lay(x, new int[] {0, 3, 1, 0});
     given(x, j, 0, 50, 0, " Z ");
+    // what a longer LINE gave before is nothing to a shorter one
+    Check.indicator(x, 1, 0, 6);
+    Check.rule(x, 1, 0, "y", 7);
+    Check.lay(x, new int[] {4, 6, 7});
+    given(x, j, 0, 50, 0, "<Y");
+    x.cut(0, 2);
+    given(x, j, 0, 50, 0);
+    x.cut(0, 1);
+    given(x, j, 0, 50, 0, "<");
   }
 
   private void readingsStay() {

@@ -871,6 +871,12 @@ public final class TextEdgesTest {
     c.done(x, "emboss() passes it", x.emboss(0, 1), 0);
     c.done(x, "set() makes all anew", x.set(0), 1);
     c.done(x, "it is there", x.length(0), 1);
+    c.done(x, "and again", x.set(0), 1);
+    c.done(x, "it is there", x.length(0), 1);
+    x.lose(0);
+    Check.text(x, "x");
+    c.due("refused", x.set(0), -1);
+    c.refused(x, "it is lacking still", x.length(0), 1);
   }
 
   private void copyRow() {
