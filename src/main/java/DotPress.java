@@ -70,7 +70,7 @@ public final class DotPress {
   private final Source source = new Source();
   private final Setting word = new Setting();
   private final Reader reader = new Reader();
-  private final Readings found = new Readings();
+  private final Readings found = new Readings(reader);
   private Sheet sheet = new Sheet();
   private Sheet draft = new Sheet();
   private int width = 32;
@@ -551,7 +551,7 @@ public final class DotPress {
       return refuse(NOT_AS_TOLD);
     }
     reader.gather(table);
-    found.collect(reader, line, 255 & ~failedDots, most);
+    found.collect(line, 255 & ~failedDots, most);
     return done(found.count);
   }
 
@@ -975,10 +975,14 @@ public final class DotPress {
           change.table.removeLast();
           break;
         case Change.CONDITIONED:
-          change.row.condition = change.number;
+          if (change.row != null) {
+            change.row.condition = change.number;
+          }
           break;
         default:
-          change.table.indicators[change.number] = change.row;
+          if (change.number >= CAPITAL && change.number <= BACK) {
+            change.table.indicators[change.number] = change.row;
+          }
           break;
       }
       return true;
@@ -1501,16 +1505,19 @@ public final class DotPress {
 
     void endText(boolean isCentred, int width) {
       for (int l = textBegin; isCentred && l < count; l++) {
-        rows[l].indent((width - rows[l].size) / 2);
+        Line line = at(l);
+        if (line != null) {
+          line.indent((width - line.size) / 2);
+        }
       }
     }
 
     int goOver(int before) {
       int d = before;
       for (int l = 0; l < count; l++) {
-        Line line = rows[l];
-        d = d * 31 + (line.lacking ? -1 : line.size);
-        for (int i = 0; !line.lacking && i < line.size; i++) {
+        Line line = present(l);
+        d = d * 31 + (line == null ? -1 : line.size);
+        for (int i = 0; line != null && i < line.size; i++) {
           d = d * 31 + line.cells[i];
         }
       }
@@ -1703,10 +1710,16 @@ public final class DotPress {
     final Ints bytes = new Ints(MOST_READINGS * MOST_READING_CELLS * MOST_LETTERS);
     int count = 0;
     boolean leftSome = false;
-    Reader rows = null;
-    Line line = null;
+    /** Whose ROWS, as they were gathered, are tried. */
+    final Reader rows;
+    /** The CELLS of the LINE. */
+    final int[] cells = new int[MOST_READING_CELLS];
     int size = 0;
     int seen = 0;
+
+    Readings(Reader rows) {
+      this.rows = rows;
+    }
 
     int byteOf(int k, int i) {
       if (k < 0 || k >= count) {
@@ -1717,10 +1730,9 @@ public final class DotPress {
     }
 
     /** Seen: the dots that have not FAILED. */
-    void collect(Reader rows, Line line, int seen, int most) {
-      this.rows = rows;
-      this.line = line;
+    void collect(Line line, int seen, int most) {
       this.size = Math.min(line.size, MOST_READING_CELLS);
+      System.arraycopy(line.cells, 0, cells, 0, size);
       this.seen = seen;
       count = 0;
       leftSome = false;
@@ -1806,7 +1818,7 @@ public final class DotPress {
     }
 
     private boolean looksLike(int cell, int at) {
-      return at < size && ((cell ^ line.cells[at]) & seen) == 0;
+      return at < size && ((cell ^ cells[at]) & seen) == 0;
     }
 
     private boolean looksLikeRow(Row row, int at) {

@@ -15,15 +15,6 @@ import java.util.regex.Pattern;
 
 /** The rules of LANGUAGE.md that can be seen from outside, and the face of the document. */
 public final class LanguageTest {
-  private static final String FACE =
-      "DotPress(); feed(int,int,int,int,int); end(int); table(int,int,int); join(int,int);"
-      + " drop(int); rule(int,int,int); condition(int,int,int); indicator(int,int); undo(); text();"
-      + " measure(int,int,int); set(int); head(int); lines(); pages(); length(int); cell(int,int);"
-      + " page(int,int,int); cut(int,int); lose(int); copyRow(int,int,int,int,int);"
-      + " copyLines(int,int,int); copied(); emboss(int,int); closed(); read(int,int,int);"
-      + " letter(int); failed(int,boolean); readings(int,int,int); more(); reading(int,int);"
-      + " judge(int); parts(int,int,int); unreadable(int,int,int); saved(int,int); place();"
-      + " finds(int); status(); digest()";
   private static final Set<String> LIBRARY = Set.of("ArrayList", "Arrays", "Math", "Integer", "System");
 
   private static int wrong = 0;
@@ -53,7 +44,24 @@ public final class LanguageTest {
     return all.append(')').toString();
   }
 
-  private static void face() {
+  /** The members in the document's code block, without the names of what they take. */
+  private static Set<String> documentFace() throws Exception {
+    String document = Files.readString(Path.of("../shared/DOC.md"));
+    int begin = document.indexOf("public final class DotPress {");
+    String block = document.substring(begin, document.indexOf("```", begin));
+    Set<String> members = new TreeSet<>();
+    Matcher member = Pattern.compile("public (?:int )?(\\w+)\\(([^)]*)\\);").matcher(block);
+    while (member.find()) {
+      String types = member.group(2).replaceAll(" \\w+(?=,|$)", "").replace(" ", "");
+      members.add(member.group(1) + "(" + types + ")");
+    }
+    if (members.size() != 40) {
+      fault("the document's face has " + members.size() + " members");
+    }
+    return members;
+  }
+
+  private static void face() throws Exception {
     Set<String> seen = new TreeSet<>();
     Set<String> names = new TreeSet<>();
     for (Constructor<?> made : DotPress.class.getDeclaredConstructors()) {
@@ -68,9 +76,12 @@ public final class LanguageTest {
         }
       }
     }
-    Set<String> due = new TreeSet<>(List.of(FACE.split("; ")));
+    Set<String> due = documentFace();
     if (!seen.equals(due)) {
-      fault("rule 1: the face is " + seen);
+      fault("rule 1: the face is " + seen + ", the document has " + due);
+    }
+    if (!Modifier.isFinal(DotPress.class.getModifiers()) || DotPress.class.getFields().length > 0) {
+      fault("rule 1: the class is not final, or has a field that is seen");
     }
     List<Member> others = new ArrayList<>(List.of(DotPress.class.getDeclaredMethods()));
     others.addAll(List.of(DotPress.class.getDeclaredFields()));
