@@ -28,6 +28,7 @@ public final class ReadingEdgesTest {
     test.readingsHundredCells();
     test.readingsAllFailed();
     test.readingsTurns();
+    test.readingsBehindManyThatEndNowhere();
     test.readingsStay();
     test.judgeFewRows();
     test.judgeHyphens();
@@ -560,6 +561,32 @@ public final class ReadingEdgesTest {
     given(x, j, 0, 50, 0);
     x.cut(0, 1);
     given(x, j, 0, 50, 0, "<");
+  }
+
+  /** More rows than can be tried begin well, come ahead of the only readings, and do not end. */
+  private void readingsBehindManyThatEndNowhere() {
+    c.promise(30, "of all rows, however many are none");
+    DotPress x = new DotPress();
+    x.table(0, 8, 0);
+    Check.rule(x, 0, 0, "a", 1);
+    Check.rule(x, 0, 0, "b", 2);
+    Check.rule(x, 0, 0, "c", 5);
+    x.table(0, 8, 0);
+    Check.rule(x, 1, 0, "d", 1);
+    Check.rule(x, 1, 0, "x", 8);
+    int j = x.join(0, 1);
+    Check.indicator(x, j, 2, 1, 5);
+    Check.text(x, "<" + "d".repeat(90) + "x");
+    x.set(j);
+    x.failed(0, true);
+    x.failed(1, true);
+    String reading = "<" + "d".repeat(90) + "x";
+    given(x, j, 0, 50, 0, reading);
+    // with an end of its own the SECOND part is no longer all alike
+    Check.indicator(x, j, 3, 8);
+    given(x, j, 0, 1, 1, reading);
+    x.drop(j);
+    given(x, 0, 0, 50, 0);
   }
 
   private void readingsStay() {

@@ -39,6 +39,7 @@ public final class TableEdgesTest {
     test.indicatorsAreEmptyAtFirst();
     test.undoNone();
     test.undoEach();
+    test.undoIndicators();
     test.undoFull();
     test.undoNumbers();
     test.c.end("TableEdgesTest");
@@ -694,6 +695,39 @@ public final class TableEdgesTest {
     c.done(x, "table", x.undo(), 1);
     c.refused(x, "no TABLE", x.judge(0), 3);
     c.done(x, "none", x.undo(), 0);
+  }
+
+  private void undoIndicators() {
+    c.promise(10, "each INDICATOR is as it was");
+    DotPress x = new DotPress();
+    x.table(0, 6, 0);
+    Check.rule(x, 0, 0, "a", 1);
+    x.table(2, 6, 0);
+    Check.rule(x, 1, 0, "1", 1);
+    x.join(0, 1);
+    int[] owners = {1, 1, 2, 2};
+    for (int which = 0; which < owners.length; which++) {
+      Check.indicator(x, owners[which], which, 10 + which);
+    }
+    c.laid(x, 1, "A1", "10 1 11 1");
+    c.laid(x, 2, "a<1>a", "1 12 11 1 13 1");
+    for (int which = 0; which < owners.length; which++) {
+      Check.indicator(x, owners[which], which, 20, 20 + which);
+    }
+    c.laid(x, 2, "a<1>a", "1 20 22 20 21 1 20 23 1");
+    for (int which = 0; which < owners.length; which++) {
+      c.done(x, "the second one", x.undo(), 1);
+    }
+    c.laid(x, 1, "A1", "10 1 11 1");
+    c.laid(x, 2, "a<1>a", "1 12 11 1 13 1");
+    c.done(x, "BACK", x.undo(), 1);
+    c.unknown(x, 2, "a<1>a", 3);
+    c.done(x, "CHANGE", x.undo(), 1);
+    c.unknown(x, 2, "a<1>a", 1);
+    c.done(x, "NUMBER", x.undo(), 1);
+    c.laid(x, 1, "A1", "10 1 1");
+    c.done(x, "CAPITAL", x.undo(), 1);
+    c.unknown(x, 1, "A1", 0);
   }
 
   /** As many changes as the promised calls can make and take back. */

@@ -53,6 +53,7 @@ public final class TextEdgesTest {
     test.copyLinesStops();
     test.emboss();
     test.embossMany();
+    test.embossShortened();
     test.c.end("TextEdgesTest");
   }
 
@@ -1070,5 +1071,25 @@ public final class TextEdgesTest {
     x.lose(199);
     c.done(x, "the last is lacking", x.emboss(198, 2), 2);
     c.due("closed()", x.closed(), 403);
+  }
+
+  /** What a LINE had before it became shorter has no dots any more. */
+  private void embossShortened() {
+    c.promise(25, "dots of the CELLS that a LINE has");
+    DotPress x = press(9);
+    Check.rule(x, 0, 0, "f", 255);
+    c.laid(x, 0, "fffff\na", "255 255 255 255 255", "1");
+    c.done(x, "all", x.emboss(0, 2), 41);
+    for (int n = 4; n >= 0; n--) {
+      x.cut(0, n);
+      c.done(x, "the first " + n, x.emboss(0, 2), 8 * n + 1);
+    }
+    c.laid(x, 0, "fffff\nfffff", "255 255 255 255 255", "255 255 255 255 255");
+    c.laid(x, 0, "fffff\nfffff", "255 255 255 255 255", "255 255 255 255 255");
+    c.laid(x, 0, "a", "1");
+    c.done(x, "set anew", x.emboss(0, 1), 1);
+    c.laid(x, 0, "a\nfffff", "1", "255 255 255 255 255");
+    x.copyLines(0, 1, 1);
+    c.done(x, "copied", x.emboss(1, 1), 1);
   }
 }
