@@ -24,6 +24,7 @@ public final class TextEdgesTest {
     test.breaksBehindWords();
     test.breaksGoOn();
     test.breaksOfManyCells();
+    test.breaksOfOthers();
     test.breaksOfShort();
     test.breaksOfNumeric();
     test.neverBroken();
@@ -321,6 +322,19 @@ public final class TextEdgesTest {
     c.laid(x, 0, "a~A~Aa", "1 36", "7 7 1 36", "7 7 1 1");
     c.laid(x, 0, "aa~A", "1 1 36", "7 7 1");
     c.laid(x, 0, "a~A", "1 7 7 1");
+  }
+
+  /** Where the WORD before could be broken is nothing to this one. */
+  private void breaksOfOthers() {
+    c.promise(13, "at a ~ between two of its LETTERS");
+    DotPress x = press(8);
+    Check.rule(x, 0, 0, "f", 6, 6, 6, 6);
+    String four = "6 6 6 6";
+    c.laid(x, 0, "aaaa~a ffff", "1 1 1 1 1", four + " " + four + " " + four + " " + four);
+    c.laid(x, 0, "a~a~a~a~a fff", "1 1 1 1 1", four + " " + four + " " + four);
+    c.laid(x, 0, "a~a~a~a~a fff~", "1 1 1 1 1", four + " " + four + " " + four);
+    c.laid(x, 0, "a~a~a~a~a ~fff", "1 1 1 1 1", four + " " + four + " " + four);
+    c.laid(x, 0, "a~a~a~a~a f~ff", "1 1 1 1 1", four + " 36", four + " " + four);
   }
 
   private void breaksOfShort() {
